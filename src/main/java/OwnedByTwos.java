@@ -682,10 +682,6 @@ public final class OwnedByTwos {
             return Integer.bitCount(mates);
         }
 
-        int undone() {
-            return (1 << works) - 1 & ~done;
-        }
-
         boolean clash(int work, int other) {
             return work != other && day[work] == day[other] && (kit[work] & kit[other]) != 0;
         }
@@ -1408,7 +1404,6 @@ public final class OwnedByTwos {
         private final int[] stopping = new int[MOST_TWOS];
         private final byte[] steps = new byte[1 << MOST_WORKS];
         private final int[] pairs = new int[MOST_PAIRS_LAID];
-        private final int[] laid = new int[MOST_LAID];
         private final int[] stoppedBy = new int[MOST_LAID * MOST_PAIRS_LAID];
 
         /** The WORKS, not DONE, that NEED both, as a set. */
@@ -1510,7 +1505,6 @@ public final class OwnedByTwos {
             int ways = 1;
             for (int thing = 0; thing < town.things; thing++) {
                 if (has(things, thing) && count < MOST_LAID) {
-                    laid[count] = thing;
                     for (int i = 0; i < pairCount; i++) {
                         stoppedBy[MOST_PAIRS_LAID * count + i] =
                                 stoppedThrough(town, thing, pairs[i] / 16, pairs[i] % 16);
