@@ -4,6 +4,7 @@ public final class LawsTest {
 
     public static void main(String[] args) {
         cantStand();
+        cutOff();
         tooLong();
         tooDeep();
         tooMany();
@@ -76,6 +77,23 @@ public final class LawsTest {
         fault("yes 1" + (char) 0, 5, 0);
         fault("yes " + (char) 233, 4, 0);
         fault("yes 1)", 5, 0);
+        fault("yes dayz", 4, 0);
+        fault("zyes 1", 0, 0);
+        fault("yes 1 if day{1", 12, 0);
+        fault("yes a", 4, 0);
+    }
+
+    /** What end cut off is no part of the text, though it was fed. */
+    private static void cutOff() {
+        String[] texts = {"yes 1 if day<=1", "yes 12", "yes dayday", "yes 1;yes 1", "yes 1 if 1=1 and 1=1"};
+        int[] ends = {13, 5, 7, 5, 12};
+        int[] wants = {-2 - (1 + 8 * 13), 0, 0, 0, 0};
+        for (int i = 0; i < texts.length; i++) {
+            OwnedByTwos t = new OwnedByTwos();
+            Check.write(t, texts[i]);
+            t.end(ends[i]);
+            Check.due("law of " + texts[i] + " cut to " + ends[i], t.law(), wants[i]);
+        }
     }
 
     private static void tooLong() {

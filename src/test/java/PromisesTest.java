@@ -705,7 +705,9 @@ public final class PromisesTest {
             u.thing(i, (i + 1) % 12, 0);
             u.work(i, 1 << i, 0, 0);
         }
-        due("28: twelve rings apart", u.least(), 12);
+        due("28: a ring of twelve", u.least(), 12);
+        law(u, "yes like");
+        due("23: a ring of twelve", u.chain(0, 5), 4095);
     }
 
     private static void lay() {
