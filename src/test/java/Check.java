@@ -1,3 +1,8 @@
+import java.lang.reflect.InvocationTargetException;
+import java.lang.reflect.Method;
+import java.util.Arrays;
+import java.util.Comparator;
+
 /** Counts answers that are not as due, and feeds texts. */
 final class Check {
     private static int wrong = 0;
@@ -27,6 +32,40 @@ final class Check {
         System.out.println(name + ": " + asked + " answers, " + wrong + " not as due");
         if (wrong != 0 || asked == 0) {
             System.exit(1);
+        }
+    }
+
+    /**
+     * Runs every method without parameters whose name is this word, a number and what it is about; there
+     * must be one at least for each number from 1 on.
+     */
+    static void runAll(Class<?> tests, String word, int numbers) throws IllegalAccessException {
+        Method[] methods = tests.getDeclaredMethods();
+        Arrays.sort(methods, Comparator.comparing(Method::getName));
+        boolean[] has = new boolean[numbers + 1];
+        for (Method m : methods) {
+            if (m.getName().matches(word + "[0-9]+[A-Z].*") && m.getParameterCount() == 0) {
+                has[Integer.parseInt(m.getName().substring(word.length()).split("[A-Z]")[0])] = true;
+                run(m);
+            }
+        }
+        for (int n = 1; n <= numbers; n++) {
+            due(word + " " + n + " has a test", has[n], true);
+        }
+    }
+
+    private static void run(Method test) throws IllegalAccessException {
+        int before = asked;
+        int wrongBefore = wrong;
+        try {
+            test.invoke(null);
+        } catch (InvocationTargetException e) {
+            e.getCause().printStackTrace(System.out);
+            wrong++;
+        }
+        due(test.getName() + " asks something", asked > before, true);
+        if (wrong > wrongBefore) {
+            System.out.println("FAILED: " + test.getName());
         }
     }
 
