@@ -413,6 +413,22 @@ public final class BoundariesTest {
         due("10: no law 2", t.nod(2, 0, 0, 2), NONE);
     }
 
+    /** What a text that was no LAW had before its FAULT is no part of the next one, and counts for nothing there. */
+    static void promise10AFaultLeavesNothingForTheNext() {
+        OwnedByTwos t = Towns.small();
+        t.end(0);
+        due("10: a fault behind a clause", law(t, "price 5;no"), FAULT_AT_0 - 8 * 8);
+        due("10: the next one", law(t, "price 7"), 2);
+        due("10: by its own clause", t.nod(2, 0, 0, 2), 7);
+        due("10: sixty and a fault", law(t, "price 1" + "+1".repeat(59) + ";"), FAULT_AT_0 - 8 * 126);
+        due("10: sixty again", law(t, "price 1" + "+1".repeat(59)), 3);
+        due("10: sixty and once more", law(t, "price 2" + "+1".repeat(59)), 4);
+        due("10: twelve and a fault", law(t, "price 5;".repeat(12)), FAULT_AT_0 - 8 * 96);
+        due("10: twelve again", law(t, "price 5 if 1=2;".repeat(11) + "price 9"), 5);
+        due("10: by the last one", t.nod(5, 0, 0, 2), 9);
+        due("10: by sixty", t.nod(3, 0, 0, 2) * 100 + t.nod(4, 0, 0, 2), 6061);
+    }
+
     // ---- 11 to 14: of, two, things, works
 
     static void promise11WithoutThese() {
@@ -504,6 +520,8 @@ public final class BoundariesTest {
     static void promise14WithoutThese() {
         Shown.range("14: work", Towns::small, (t, n) -> t.works(n, 0), 0, 3, NONE);
         Shown.range("14: what", Towns::small, (t, n) -> t.works(0, n), 0, 4, NONE);
+        due("14: done", Towns.small().works(3, 4), 1);
+        due("14: not done", Towns.small().works(0, 4), 0);
         due("14: the last of twelve", Towns.full().works(11, 2), 9988);
         due("14: no thirteenth", Towns.full().works(12, 2), NONE);
     }
@@ -876,6 +894,10 @@ public final class BoundariesTest {
         OwnedByTwos t = Towns.people(4);
         Towns.things(t, 23);
         t.thing(2, 3, 0);
+        due("30: no third half of one, though the next thing has halves", Towns.small().swap(0, 2, 2, 1), false);
+        due("30: no third half of the other", Towns.small().swap(2, 1, 0, 2), false);
+        due("30: no half before the first", Towns.small().swap(1, -1, 1, 0), false);
+        due("30: no half before the first", Towns.small().swap(1, 0, 1, -1), false);
         due("30: the last thing", t.swap(0, 0, 23, 1), true);
         due("30: no 25th", t.swap(0, 0, 24, 0), false);
     }

@@ -89,19 +89,19 @@ public final class ModelTest {
     }
 
     private static int aPerson() {
-        return once(25) ? between(-2, 13) : below(Math.max(1, town.count(0)));
+        return once(25) ? between(-2, 13) : below(Math.max(1, model.count(0)));
     }
 
     private static int aThing() {
-        return once(25) ? between(-2, 25) : below(Math.max(1, town.count(2)));
+        return once(25) ? between(-2, 25) : below(Math.max(1, model.count(2)));
     }
 
     private static int aWork() {
-        return once(25) ? between(-2, 13) : below(Math.max(1, town.count(3)));
+        return once(25) ? between(-2, 13) : below(Math.max(1, model.count(3)));
     }
 
     private static int aLaw() {
-        return once(25) ? between(-2, 7) : below(Math.max(1, town.count(6)));
+        return once(25) ? between(-2, 7) : below(Math.max(1, model.count(6)));
     }
 
     private static int aSet(int of, int most) {
@@ -130,7 +130,7 @@ public final class ModelTest {
 
     private static void addWork() {
         int a = aPerson();
-        int set = aSet(town.count(2), 4);
+        int set = aSet(model.count(2), 4);
         int worth = once(9) ? between(-1, 10001) : below(12);
         int day = once(20) ? between(-1, 101) : between(0, days);
         due("work(" + a + ", " + set + ", " + worth + ", " + day + ")", town.work(a, set, worth, day),
@@ -218,7 +218,7 @@ public final class ModelTest {
     }
 
     private static void feedText(String text) {
-        int length = town.count(10) + text.length();
+        int length = model.count(10) + text.length();
         for (int i = 0; i < text.length(); i += 20) {
             int[] n = new int[5];
             for (int k = 0; k < 5; k++) {
@@ -331,7 +331,7 @@ public final class ModelTest {
         int l = aLaw();
         int w = aWork();
         int what = once(15) ? between(-1, 3) : below(2);
-        int set = aSet(town.count(0), 7);
+        int set = aSet(model.count(0), 7);
         int p = aPerson();
         switch (below(9)) {
             case 0: case 1: due("chain(" + l + ", " + w + ")", town.chain(l, w), model.chain(l, w)); break;
@@ -345,8 +345,8 @@ public final class ModelTest {
             case 6: due("stopped()", town.stopped(), model.stopped()); break;
             case 7: due("least()", town.least(), model.least()); break;
             default:
-                set = aSet(town.count(2), once(9) ? 5 : 3);
-                int who = aSet(town.count(0), 5);
+                set = aSet(model.count(2), once(9) ? 5 : 3);
+                int who = aSet(model.count(0), 5);
                 int k = between(-1, once(9) ? 4 : 2);
                 due("lay(" + set + ", " + who + ", " + k + ")", town.lay(set, who, k), model.lay(set, who, k));
                 break;

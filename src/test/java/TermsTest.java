@@ -322,6 +322,36 @@ public final class TermsTest {
         fault("yes 1:", 5, 0);
     }
 
+    static void part2TestsOfOneFactAndOfMany() {
+        String yes = "1=1";
+        String no = "1=2";
+        for (int n = 0; n < 16; n++) {
+            String[] facts = new String[4];
+            for (int i = 0; i < 4; i++) {
+                facts[i] = (n >> i & 1) != 0 ? yes : no;
+            }
+            boolean a = (n & 1) != 0;
+            boolean b = (n & 2) != 0;
+            boolean c = (n & 4) != 0;
+            boolean d = (n & 8) != 0;
+            test(facts[0], a);
+            test("not " + facts[0], !a);
+            test("[" + facts[0] + "]", a);
+            test(String.join(" or ", facts), a || b || c || d);
+            test(String.join(" and ", facts), a && b && c && d);
+            test(facts[0] + " and " + facts[1] + " or " + facts[2] + " and " + facts[3], a && b || c && d);
+            test(facts[0] + " or " + facts[1] + " and " + facts[2] + " or " + facts[3], a || b && c || d);
+            test("[" + facts[0] + " or " + facts[1] + "] and [" + facts[2] + " or " + facts[3] + "]",
+                    (a || b) && (c || d));
+            test("not " + facts[0] + " and not [" + facts[1] + " or " + facts[2] + "] or " + facts[3],
+                    !a && !(b || c) || d);
+        }
+    }
+
+    private static void test(String test, boolean holds) {
+        price("price 1 if " + test + ";price 2", holds ? 1 : 2);
+    }
+
     static void part2EachSign() {
         String[] signs = {"<", "<=", "=", ">=", ">"};
         boolean[][] holds = {{true, false, false}, {true, true, false}, {false, true, false}, {false, true, true},
@@ -528,6 +558,31 @@ public final class TermsTest {
                 + " and day=99 and shared=23 and near=10"), 0, 0, 1), 1);
     }
 
+    /** The last of 24 THINGS, whose owners are the last of 12 PEOPLE, the last of 12 WORKS. */
+    static void part2WordsOfTheLast() {
+        OwnedByTwos t = Towns.people(12);
+        Towns.things(t, 23);
+        t.thing(10, 11, 321);
+        for (int i = 0; i < 12; i++) {
+            t.work(9, i < 11 ? 1 : 1 << 23, 10 * i, i);
+        }
+        t.like(10, 9, 1);
+        t.like(10, 11, 2);
+        t.like(11, 9, 3);
+        t.like(11, 10, 4);
+        law(t, "price like*1000+mate*100+worth/10;price 1");
+        due("II: of the first owner", t.nod(0, 11, 23, 10), 1211);
+        due("II: of the second owner", t.nod(0, 11, 23, 11), 3411);
+        law(t, "price use+owns*1000+day");
+        due("II: of the thing", t.nod(1, 11, 23, 10), 1332);
+        law(t, "yes like-1");
+        due("II: who bars", t.bars(2, 11), 10);
+        t.like(10, 9, 2);
+        due("II: none", t.bars(2, 11), -2);
+        t.quarrel(10, 11, true);
+        due("II: both nod: the first", t.bars(2, 11), 10);
+    }
+
     static void part2YearAtItsMost() {
         OwnedByTwos t = asking();
         law(t, "price year");
@@ -612,11 +667,11 @@ public final class TermsTest {
         law(t, "yes 1");
         t.does(0, 1);
         t.back(0);
-        law(t, "yes shared;nods 1 if like=0 and mate=0 and owns=0 and given=0 and shared=0 and near=0");
-        due("II: the others are 0, but none nods", t.had(1, 0, 0), -2);
-        law(t, "yes like-1+mate-2+1;nods 3 if like+mate+owns+given+shared+near>0;nods 1");
+        law(t, "yes 1;nods 1 if like=0 and mate=0 and owns=0 and given=0 and shared=0 and near=0");
+        law(t, "yes 1;nods 1 if like*like+mate*mate+owns+given+shared+near>0");
         t.quarrel(1, 2, true);
-        due("II: the others are 0", t.had(2, 0, 0), 0);
+        due("II: the others are 0", t.had(1, 0, 0), 0);
+        due("II: they are not more", t.had(2, 0, 0), -2);
         law(t, "yes 1;nods 1 if worth=7 and use=6 and coin=12 and day=8 and year=0");
         due("II: the five are not", t.had(3, 0, 0), 0);
     }
@@ -931,6 +986,83 @@ public final class TermsTest {
         due("III: the asker's own is enough", t.chain(1, 0), 1);
     }
 
+    static void part3ChainWithOneNod() {
+        OwnedByTwos t = Towns.people(4);
+        t.thing(1, 2, 0);
+        t.thing(1, 3, 0);
+        t.work(0, 1, 0, 0);
+        t.work(0, 2, 0, 0);
+        t.work(1, 1, 0, 1);
+        t.work(2, 1, 0, 2);
+        t.work(3, 2, 0, 3);
+        t.work(0, 3, 0, 4);
+        law(t, "yes 0;nods 1");
+        due("III: one of two askers, the least", t.chain(0, 0), 1 + 4);
+        due("III: for two things one asker of both", t.chain(0, 5), 32 + 4);
+        t.image(0);
+        t.quarrel(0, 1, true);
+        due("III: the first quarrels with the asker", t.chain(0, 0), 1 + 8);
+        due("III: for each thing the other one", t.chain(0, 5), 32 + 16 + 8);
+        t.quarrel(0, 2, true);
+        due("III: both quarrel with the asker", t.chain(0, 0), -2);
+        due("III: one thing of two can't be had", t.chain(0, 5), -2);
+        t.back(0);
+        t.quarrel(1, 2, true);
+        due("III: the owners may quarrel", t.chain(0, 0), 1 + 4);
+        t.like(2, 0, 1);
+        law(t, "yes like;nods 1");
+        due("III: one nods anyway", t.chain(1, 0), 1);
+        due("III: the other thing needs one", t.chain(1, 5), 32 + 4);
+        t.dies(1);
+        due("III: by what is then", t.chain(1, 0), 1);
+    }
+
+    static void part3ChainOfFourThingsWithBothNods() {
+        OwnedByTwos t = Towns.people(9);
+        for (int i = 0; i < 4; i++) {
+            t.thing(2 * i + 1, 2 * i + 2, 0);
+        }
+        t.work(0, 15, 0, 0);
+        for (int i = 0; i < 8; i++) {
+            t.thing(0, i + 1, 0);
+            t.work(i + 1, 16 << i, 0, 0);
+        }
+        law(t, "yes like");
+        due("III: all eight must ask", t.chain(0, 0), 511);
+        t.quarrel(0, 8, true);
+        due("III: the last quarrels with the asker", t.chain(0, 0), -2);
+        t.quarrel(0, 8, false);
+        t.quarrel(7, 8, true);
+        due("III: the last owners quarrel", t.chain(0, 0), -2);
+        t.quarrel(7, 8, false);
+        t.like(8, 0, 1);
+        due("III: seven must", t.chain(0, 0), 255);
+    }
+
+    /** What was reckoned for other WORKS under the same numbers is forgotten. */
+    static void part3NothingIsKeptOfWorksThatAreGone() {
+        OwnedByTwos t = Towns.people(3);
+        Towns.things(t, 2);
+        law(t, "yes 1");
+        t.image(0);
+        t.work(0, 1, 5, 0);
+        t.work(0, 1, 5, 0);
+        due("III: they clash", t.all(0, 0), 1);
+        due("III: v", t.worth(3), 5);
+        due("III: stopped by none", t.stopped() + t.least(), 1);
+        t.back(0);
+        t.work(0, 1, 5, 0);
+        t.work(0, 1, 5, 1);
+        due("III: these don't", t.all(0, 0), 3);
+        due("III: v", t.worth(3), 10);
+        t.back(0);
+        t.work(2, 1, 5, 0);
+        due("III: one alone", t.all(0, 0), 1);
+        due("III: v of 0 and 1", t.worth(3), 0);
+        due("III: v of all", t.worth(7), 5);
+        due("III: chain", t.chain(0, 0), 1);
+    }
+
     static void part3AllTheGreatestTheFewestTheLeast() {
         OwnedByTwos t = Towns.people(2);
         Towns.things(t, 3);
@@ -972,6 +1104,48 @@ public final class TermsTest {
         }
     }
 
+    /** The worths differ, so that each order in which they could come tells. */
+    static void part3ShareTheMeanOverAllOrders() {
+        OwnedByTwos t = Towns.people(4);
+        t.thing(0, 1, 0);
+        t.thing(1, 2, 0);
+        t.thing(2, 3, 0);
+        t.work(0, 1, 7, 0);
+        t.work(1, 2, 50, 0);
+        t.work(3, 4, 400, 0);
+        t.work(0, 7, 1000, 0);
+        int[] v = new int[16];
+        for (int set = 1; set < 16; set++) {
+            int three = ((set & 3) == 3 ? 7 : 0) + ((set & 6) == 6 ? 50 : 0) + ((set & 12) == 12 ? 400 : 0);
+            v[set] = set == 15 ? 1000 : three;
+            due("III: v of " + set, t.worth(set), v[set]);
+        }
+        for (int person = 0; person < 4; person++) {
+            long sum = 0;
+            for (int order = 0; order < 256; order++) {
+                sum += gainIn(order, person, v);
+            }
+            due("III: above", t.share(15, person, 0) * 24L, sum * t.share(15, person, 1));
+        }
+    }
+
+    /** What one brings in an order of four, 0 if the digits are no order. */
+    private static int gainIn(int order, int person, int[] v) {
+        int here = 0;
+        int gain = 0;
+        for (int i = 0; i < 4; i++) {
+            int comes = order >> 2 * i & 3;
+            if ((here >> comes & 1) != 0) {
+                return 0;
+            }
+            if (comes == person) {
+                gain = v[here | 1 << comes] - v[here];
+            }
+            here |= 1 << comes;
+        }
+        return gain;
+    }
+
     static void part3ShareWhateverLawsAndQuarrelsSay() {
         OwnedByTwos t = Towns.people(2);
         Towns.things(t, 1);
@@ -1003,6 +1177,7 @@ public final class TermsTest {
         t.work(0, 3, 0, 0);
         due("IV: the asker and an owner", t.two(0, 1, 4), 1);
         due("IV: the asker and an owner of the other", t.two(0, 3, 4), 1);
+        due("IV: an owner and the asker", t.two(3, 0, 4), 1);
         due("IV: both owners of one", t.two(3, 2, 4), 1);
         due("IV: owners of two things", t.two(1, 2, 4), 0);
         due("IV: unlike", t.two(0, 0, 4), -100);
@@ -1037,6 +1212,26 @@ public final class TermsTest {
         due("IV: by owners", t.stopped(), 1);
         t.quarrel(0, 1, false);
         due("IV: no more", t.stopped(), 0);
+    }
+
+    static void part4StoppedByTheLastThings() {
+        OwnedByTwos t = Towns.people(12);
+        Towns.things(t, 22);
+        t.thing(8, 9, 0);
+        t.thing(10, 11, 0);
+        t.work(2, 1 << 22, 0, 0);
+        t.work(3, 1 << 22, 0, 1);
+        t.work(2, 1 << 23, 0, 0);
+        t.work(3, 1, 0, 0);
+        t.does(law(t, "yes 1"), 1);
+        t.quarrel(8, 9, true);
+        due("IV: one, for one is done", t.stopped(), 1);
+        t.quarrel(2, 11, true);
+        due("IV: one more by the last thing", t.stopped(), 2);
+        t.quarrel(8, 9, false);
+        due("IV: the last alone", t.stopped(), 1);
+        t.quarrel(0, 1, true);
+        due("IV: by the first thing", t.stopped(), 2);
     }
 
     static void part4LeastTheFewestTwos() {
@@ -1093,6 +1288,35 @@ public final class TermsTest {
         due("IV: the first thing", t.lay(3, 7, 0), 2);
         due("IV: the second thing", t.lay(3, 7, 1), 16 + 2);
         due("IV: by its place, the second thing alone", t.lay(2, 7, 0), 16 + 2);
+    }
+
+    /** Four of twelve have six twos; only the last of these stops fewer. */
+    static void part4LayTheLastOfAllWays() {
+        OwnedByTwos t = Towns.people(12);
+        Towns.things(t, 20);
+        for (int i = 0; i < 4; i++) {
+            t.thing(8, 9, 0);
+        }
+        for (int i = 0; i < 12; i++) {
+            t.work(i < 11 ? 7 : 8, i < 11 ? 1 << 20 + i % 4 : 0xf << 20, 0, i);
+        }
+        t.quarrel(7, 8, true);
+        t.quarrel(7, 9, true);
+        t.quarrel(8, 9, true);
+        t.quarrel(8, 10, true);
+        due("IV: twelve in the first way, one in the last", t.lay(0xf << 20, 0xf00, -1), 1);
+        for (int k = 0; k < 4; k++) {
+            due("IV: the last two", t.lay(0xf << 20, 0xf00, k), 10 * 16 + 11);
+        }
+        t.quarrel(7, 10, true);
+        t.quarrel(7, 11, true);
+        due("IV: eleven", t.lay(0xf << 20, 0xf00, -1), 11);
+        for (int k = 0; k < 4; k++) {
+            due("IV: the one way that stops eleven", t.lay(0xf << 20, 0xf00, k), 8 * 16 + 11);
+        }
+        t.quarrel(8, 11, true);
+        due("IV: twelve in each way", t.lay(0xf << 20, 0xf00, -1), 12);
+        due("IV: the first way", t.lay(0xf << 20, 0xf00, 3), 8 * 16 + 9);
     }
 
     static void part4SwapCantBe() {
@@ -1169,6 +1393,25 @@ public final class TermsTest {
         due("IV: places", t.things(0, 1) * 10 + t.things(1, 1), 31);
     }
 
+    static void part4TradesOfTheLastHalves() {
+        OwnedByTwos t = Towns.people(6);
+        Towns.things(t, 22);
+        t.thing(2, 3, 0);
+        t.thing(4, 5, 0);
+        t.like(3, 4, 1);
+        t.like(5, 2, 1);
+        due("IV: second halves of the last two", t.trades(), 1);
+        due("IV: places", t.things(22, 1) * 10 + t.things(23, 1), 53);
+        t = Towns.people(6);
+        Towns.things(t, 22);
+        t.thing(2, 3, 0);
+        t.thing(4, 5, 0);
+        t.like(2, 4, 1);
+        t.like(5, 3, 1);
+        due("IV: the first half of one, the second of the last", t.trades(), 1);
+        due("IV: places", t.things(22, 0) * 10 + t.things(23, 1), 52);
+    }
+
     static void part4DiesWhileThreeLive() {
         OwnedByTwos t = Towns.people(3);
         due("IV: three", t.dies(1), 0);
@@ -1211,6 +1454,26 @@ public final class TermsTest {
         u.heir(1, 2);
         u.dies(2);
         due("IV: a ring with himself", u.of(1, 0), 320);
+    }
+
+    static void part4HeirsOfOneAreNotAnothers() {
+        OwnedByTwos t = Towns.with(1, 20, 300, 4000, 50000);
+        t.heir(0, 4);
+        t.dies(0);
+        due("IV: to the heir", t.of(4, 0), 50001);
+        t.dies(1);
+        due("IV: without an heir to the least who lives", t.of(2, 0), 320);
+        due("IV: not to another's heir", t.of(4, 0), 50001);
+    }
+
+    static void part4TheFirstOfAllMayBeAnHeir() {
+        OwnedByTwos t = Towns.with(1, 20, 300, 4000);
+        t.thing(3, 1, 0);
+        t.like(1, 2, 9);
+        t.heir(3, 0);
+        t.dies(3);
+        due("IV: the half", t.things(0, 0), 0);
+        due("IV: the coin", t.of(0, 0), 4001);
     }
 
     static void part4ALineOfElevenHeirs() {
@@ -1365,6 +1628,30 @@ public final class TermsTest {
         due("V: 999 is below 1000", yearBehind("peace 1000", 999, true), 0);
     }
 
+    /** x / 65536 just before and just behind it is one more. */
+    static void part5ADrawIsXBy65536() {
+        for (int low : new int[] {0, 65535}) {
+            int found = 0;
+            for (int x = 0; x < 10000000 && found < 3; x++) {
+                long next = (x * 1103515245L + 12345L) % 2147483648L;
+                if (next % 65536 == low && next > 2000000000) {
+                    found++;
+                    int draw = (int) (next / 65536 % 1000);
+                    due("V: not below the draw", yearFrom("quarrel " + draw, x), 0);
+                    due("V: below one more", yearFrom("quarrel " + (draw + 1), x), 1);
+                }
+            }
+            due("V: some were found", found, 3);
+        }
+    }
+
+    private static int yearFrom(String law, int x) {
+        OwnedByTwos t = pair();
+        law(t, law);
+        t.seed(x);
+        return t.years(0, 1);
+    }
+
     static void part5QuarrelAndPeaceHeldTo0To1000() {
         due("V: below 0", yearBehind("quarrel 0-1", 0, false), 0);
         due("V: far below", yearBehind("quarrel 0-99999*99999", 0, false), 0);
@@ -1451,6 +1738,24 @@ public final class TermsTest {
         t.like(1, 0, -9);
         law(t, "quarrel 1000 if like=0-18");
         due("V: the least like", t.years(3, 1), 1);
+    }
+
+    static void part5WordsOfTheLastTwo() {
+        OwnedByTwos t = Towns.people(12);
+        t.thing(11, 10, 0);
+        t.thing(9, 10, 0);
+        t.like(10, 11, 4);
+        t.like(11, 10, 3);
+        t.work(10, 1, 0, 0);
+        t.work(11, 1, 0, 1);
+        t.work(11, 1, 0, 2);
+        law(t, "yes 1;quarrel 1000 if like=7 and owns=3 and near=1 and given=3 and shared=1 and year=0");
+        for (int i = 0; i < 3; i++) {
+            t.does(0, i);
+        }
+        t.quarrel(0, 10, true);
+        due("V: the last two", t.years(0, 1), 2);
+        due("V: they quarrel", t.two(10, 11, 1), 1);
     }
 
     static void part5YearIsOneMoreBehindAllTwos() {
@@ -1560,9 +1865,22 @@ public final class TermsTest {
         due("V: parted by a death", t.towards(0), 6);
     }
 
+    static void part5TowardsThroughOneInTheMiddle() {
+        OwnedByTwos t = Towns.people(12);
+        t.quarrel(0, 1, true);
+        t.quarrel(0, 11, true);
+        t.quarrel(1, 5, true);
+        due("V: four", t.towards(0), 4);
+        t.quarrel(11, 6, true);
+        due("V: five", t.towards(0), 5);
+        t.quarrel(0, 1, false);
+        due("V: three and two", t.towards(0), 3);
+    }
+
     static void part5MatesNoneAndEleven() {
         OwnedByTwos t = Towns.people(12);
         due("V: none", t.of(0, 6), 0);
+        due("V: one of a single thing", pair().of(0, 6) * 10 + pair().of(1, 6), 11);
         for (int i = 0; i < 22; i++) {
             t.thing(i < 11 ? 0 : i - 10, i < 11 ? i + 1 : 0, 0);
         }
@@ -1582,6 +1900,10 @@ public final class TermsTest {
         due("V: the lesser is less, the other more", t.towards(1) * 100 + t.towards(2), 211);
         t.thing(10, 11, 0);
         due("V: the most", t.towards(1) * 100 + t.towards(2), 1011);
+        t.thing(0, 11, 0);
+        due("V: the most still", t.towards(1) * 100 + t.towards(2), 1011);
+        t.thing(11, 0, 0);
+        due("V: the first of all", t.towards(1) * 100 + t.towards(2), 11);
     }
 
     static void part5ImagesFrom0To3() {
@@ -1624,6 +1946,39 @@ public final class TermsTest {
             t.years(0, 60);
             return t.back(1);
         }, 12);
+    }
+
+    /** The same numbers stand for others in two IMAGES. */
+    static void part5ImagesOfUnlikeTowns() {
+        OwnedByTwos t = Towns.bare();
+        t.image(0);
+        t.person(1);
+        t.person(2);
+        t.thing(0, 1, 3);
+        t.work(0, 1, 4, 5);
+        t.row(0);
+        t.image(1);
+        t.back(0);
+        t.person(6);
+        t.person(7);
+        t.thing(1, 0, 8);
+        t.thing(1, 0, 8);
+        t.work(1, 3, 9, 10);
+        t.work(1, 1, 9, 11);
+        t.row(1);
+        t.image(2);
+        int[][] want = {{1, 2, 0, 1, 3, 0, 1, 4, 5}, {6, 7, 1, 0, 8, 1, 3, 9, 10}};
+        law(t, "yes 1");
+        for (int i = 0; i < 4; i++) {
+            due("V: gone back to", t.back(1 + i % 2), 2);
+            int[] got = {t.of(0, 0), t.of(1, 0), t.things(0, 0), t.things(0, 1), t.things(0, 2), t.works(0, 0),
+                t.works(0, 1), t.works(0, 2), t.works(0, 3)};
+            for (int k = 0; k < got.length; k++) {
+                due("V: as it was, " + k, got[k], want[i % 2][k]);
+            }
+            due("V: the row as it was", t.judged(0, 1), i % 2 == 0 ? 4 : 9);
+            due("V: the asker's coin then", t.then(0, i % 2), i % 2 == 0 ? 5 : 16);
+        }
     }
 
     static void part5LawsAndTheTapeStay() {
