@@ -367,6 +367,28 @@ public final class BoundariesTest {
         due("9: nothing is left", t.law(), FAULT_AT_0);
     }
 
+    /** Bytes that were cut off are no part of what stands before them. */
+    static void promise9WhatIsCutOffIsGone() {
+        String[] texts = {"yes 1 if day<=1", "yes 12", "yes dayday", "yes 1;yes", "yes 1 if 1=1 and", "yesterday"};
+        int[] ends = {13, 5, 7, 5, 12, 3};
+        int[] want = {FAULT_AT_0 - 8 * 13, 0, 0, 0, 0, FAULT_AT_0 - 8 * 3};
+        for (int i = 0; i < texts.length; i++) {
+            OwnedByTwos t = Towns.bare();
+            Check.write(t, texts[i]);
+            due("9: " + texts[i] + " cut to " + ends[i], t.end(ends[i]), ends[i]);
+            due("9: " + texts[i] + " cut to " + ends[i], t.law(), want[i]);
+        }
+    }
+
+    static void promise9MoreComesBehindTheEnd() {
+        OwnedByTwos t = Towns.bare();
+        Check.write(t, "yes 1;no");
+        t.end(6);
+        Check.write(t, "price 7");
+        due("9: 13 now", t.count(10), 13);
+        due("9: a law of both", t.law(), 0);
+    }
+
     // ---- 10: law
 
     static void promise10ThereAreSix() {
@@ -423,6 +445,9 @@ public final class BoundariesTest {
         due("10: sixty and a fault", law(t, "price 1" + "+1".repeat(59) + ";"), FAULT_AT_0 - 8 * 126);
         due("10: sixty again", law(t, "price 1" + "+1".repeat(59)), 3);
         due("10: sixty and once more", law(t, "price 2" + "+1".repeat(59)), 4);
+        for (int i = 0; i < 6; i++) {
+            due("10: sixty and a fault, again and again", law(t, "price 1" + "+1".repeat(59) + ";"), FAULT_AT_0 - 8 * 126);
+        }
         due("10: twelve and a fault", law(t, "price 5;".repeat(12)), FAULT_AT_0 - 8 * 96);
         due("10: twelve again", law(t, "price 5 if 1=2;".repeat(11) + "price 9"), 5);
         due("10: by the last one", t.nod(5, 0, 0, 2), 9);

@@ -302,12 +302,12 @@ public final class ModelTest {
         int w = aWork();
         int t = aThing();
         int a = aPerson();
-        if (town.works(w, 1) > 0 && !once(9)) {
-            int bits = town.works(w, 1);
+        if (model.works(w, 1) > 0 && !once(9)) {
+            int bits = model.works(w, 1);
             do {
                 t = below(24);
             } while ((bits >> t & 1) == 0);
-            a = once(9) ? a : town.things(t, below(2));
+            a = once(9) ? a : model.things(t, below(2));
         }
         int what = once(15) ? between(-1, 3) : below(2);
         switch (below(12)) {

@@ -358,9 +358,27 @@ public final class TermsTest {
             {false, false, true}};
         for (int i = 0; i < signs.length; i++) {
             for (int n = 6; n <= 8; n++) {
-                price("price 1 if " + n + signs[i] + "7;price 2", holds[i][n - 6] ? 1 : 2);
+                boolean holds7 = holds[i][n - 6];
+                test(n + signs[i] + "7", holds7);
+                test("not " + n + signs[i] + "7", !holds7);
+                test("not not " + n + signs[i] + "7", holds7);
+                test(n + signs[i] + "7 and 1=1", holds7);
+                test("1=2 or " + n + signs[i] + "7", holds7);
             }
         }
+    }
+
+    static void part2AFactWithoutASign() {
+        fault("yes 1 if 1 1", 11, 0);
+        fault("yes 1 if day day", 13, 0);
+        fault("yes 1 if 1", 10, 0);
+        fault("yes 1 if 1;yes 1", 10, 0);
+        fault("yes 1 if 1 and 1=1", 11, 0);
+        fault("yes 1 if [1]=1", 11, 0);
+        fault("yes 1 if =1", 9, 0);
+        fault("yes 1 if 1==1", 11, 0);
+        fault("yes 1 if 1=>1", 11, 0);
+        fault("yes 1 if 1=1=1", 12, 0);
     }
 
     static void part2DivisionIsTowards0() {
@@ -1232,6 +1250,14 @@ public final class TermsTest {
         due("IV: the last alone", t.stopped(), 1);
         t.quarrel(0, 1, true);
         due("IV: by the first thing", t.stopped(), 2);
+        t = Towns.people(4);
+        t.thing(2, 3, 0);
+        t.thing(0, 1, 0);
+        t.work(2, 1, 0, 0);
+        t.work(0, 2, 0, 0);
+        t.does(law(t, "yes 1"), 1);
+        t.quarrel(2, 3, true);
+        due("IV: though the next one is done", t.stopped(), 1);
     }
 
     static void part4LeastTheFewestTwos() {
