@@ -6,8 +6,13 @@ import java.lang.reflect.Method;
 import java.lang.reflect.Modifier;
 import java.nio.file.Files;
 import java.nio.file.Path;
+import java.util.ArrayList;
 import java.util.Arrays;
+import java.util.List;
+import java.util.Map;
+import java.util.TreeMap;
 import java.util.TreeSet;
+import java.util.regex.Matcher;
 import java.util.regex.Pattern;
 
 /** The public face of the document, and the rules of LANGUAGE.md that can be seen by looking. */
@@ -23,14 +28,23 @@ public final class FaceTest {
         "int years(int,int)", "int runs(int,int,int,int)", "int towards(int)", "int count(int)", "int image(int)",
         "int back(int)"};
     private static final String[] FORBIDDEN = {
-        "throw", "throws", "try", "catch", "synchronized", "assert", "->", "::", "Exact\\(", "static \\{", "Object", "Random", "System\\.(?!arraycopy)", "Thread", "volatile", "native", "instanceof", "var "};
+        "throw", "throws", "try", "catch", "synchronized", "assert", "->", "::", "Exact\\(", "static \\{", "Object",
+        "Random", "Thread", "volatile", "native", "instanceof", "var "};
+    private static final List<String> LIBRARY = List.of("Arrays.fill", "Integer.bitCount",
+            "Integer.numberOfTrailingZeros", "Math.max", "Math.min", "System.arraycopy", "java.util", "util.Arrays");
+    private static final int MOST_DEEP = 8;
 
     private FaceTest() { }
 
     public static void main(String[] args) throws IOException {
         face();
         insides();
-        source();
+        String text = Files.readString(Path.of("src/main/java/OwnedByTwos.java"));
+        String code = text.replaceAll("(?s)/\\*.*?\\*/", "").replaceAll("//[^\n]*", "");
+        Check.due("signs above 127", text.chars().anyMatch(c -> c > 127), false);
+        words(code);
+        lengths(code);
+        depths(code);
         Check.finish("FaceTest");
     }
 
@@ -88,15 +102,19 @@ public final class FaceTest {
         }
     }
 
-    private static void source() throws IOException {
-        String text = Files.readString(Path.of("src/main/java/OwnedByTwos.java"));
-        String code = text.replaceAll("(?s)/\\*.*?\\*/", "").replaceAll("//[^\n]*", "");
+    private static void words(String code) {
         for (String word : FORBIDDEN) {
             String pattern = Character.isLetter(word.charAt(0)) ? "\\b" + word : word;
             pattern += Character.isLetter(word.charAt(word.length() - 1)) ? "\\b" : "";
             Check.due("has " + word, Pattern.compile(pattern).matcher(code).find(), false);
         }
-        Check.due("signs above 127", text.chars().anyMatch(c -> c > 127), false);
+        Matcher library = Pattern.compile("\\b(java|util|[A-Z]\\w*[a-z])\\.(\\w+)").matcher(code);
+        while (library.find()) {
+            Check.due("of the library: " + library.group(), LIBRARY.contains(library.group()), true);
+        }
+    }
+
+    private static void lengths(String code) {
         int lines = 0;
         for (String line : code.split("\n")) {
             boolean opens = line.matches(" {4,8}[a-zA-Z].*\\) \\{");
@@ -104,5 +122,33 @@ public final class FaceTest {
             lines = opens ? 0 : lines + 1;
             Check.due("lines up to " + line, !shuts || lines <= 60 || line.startsWith("    }"), true);
         }
+    }
+
+    /** Each method's name is its own, so that calls can be told by names; a recursion is gone into once. */
+    private static void depths(String code) {
+        Map<String, String> bodies = new TreeMap<>();
+        Matcher method = Pattern.compile("(?ms)^( {4,8})(?:\\w+ )*[\\w\\[\\]]+ (\\w+)\\([^)]*\\) \\{\n(.*?)^\\1\\}")
+                .matcher(code);
+        while (method.find()) {
+            boolean own = bodies.put(method.group(2), method.group(3)) == null;
+            Check.due("a name of its own: " + method.group(2), own, true);
+        }
+        Check.due("methods are found", bodies.size() > FACE.length, true);
+        for (String name : bodies.keySet()) {
+            Check.due("calls below " + name, depth(name, bodies, List.of()) <= MOST_DEEP, true);
+        }
+    }
+
+    private static int depth(String name, Map<String, String> bodies, List<String> open) {
+        int most = 0;
+        List<String> now = new ArrayList<>(open);
+        now.add(name);
+        Matcher call = Pattern.compile("(\\w+)\\(").matcher(bodies.get(name));
+        while (call.find()) {
+            if (bodies.containsKey(call.group(1)) && !now.contains(call.group(1))) {
+                most = Math.max(most, depth(call.group(1), bodies, now));
+            }
+        }
+        return most + 1;
     }
 }
